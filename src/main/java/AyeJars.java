@@ -610,6 +610,8 @@ public final class AyeJars {
         static final int DAY = FIRST_WORD + 17;
 
         private static final int MOST_LETTERS = 8;
+        /** More than there are letters, so that no two words have one code. */
+        private static final int LETTER_CODES = 32;
         private static final int MOST_DIGITS = 4;
         /** The words that stand for themselves, in the order of their tokens, a blank behind each. */
         private static final String WORDS = "member breath keeps bill needs opens fade yawn draw or and not volume age loss shelf shaken day ";
@@ -664,7 +666,7 @@ public final class AyeJars {
         private void takeWord() {
             name = 0;
             while (at < length && isLetter(byteAt(at))) {
-                name = withLetter(name, byteAt(at));
+                name = name * LETTER_CODES + (byteAt(at) - 'a' + 1);
                 at++;
             }
             token = at - place > MOST_LETTERS ? BAD : tokenOf(name);
@@ -675,7 +677,7 @@ public final class AyeJars {
             long code = 0;
             for (int i = 0; i < WORDS.length(); i++) {
                 if (WORDS.charAt(i) != ' ') {
-                    code = withLetter(code, WORDS.charAt(i));
+                    code = code * LETTER_CODES + (WORDS.charAt(i) - 'a' + 1);
                 } else if (code == name) {
                     return word;
                 } else {
@@ -684,10 +686,6 @@ public final class AyeJars {
                 }
             }
             return NAME;
-        }
-
-        private static long withLetter(long code, int letter) {
-            return code * 32 + (letter - 'a' + 1);
         }
 
         private void takeNumber() {
@@ -890,9 +888,10 @@ public final class AyeJars {
 
         /** A word and its number, which is then lastNumber. */
         private boolean readPart(int word, int least, int most) {
-            if (!readToken(word)) {
-                return false;
+            if (tokens.token != word) {
+                return refuse(MISPLACED);
             }
+            tokens.advance();
             if (tokens.token != Tokens.NUMBER) {
                 return refuse(MISPLACED);
             }
@@ -1624,7 +1623,6 @@ public final class AyeJars {
         }
 
         int choosePlan() {
-            clear();
             Arrays.fill(sets, 0);
             most = 0;
             for (int b = 0; b < MOST_BILLS; b++) {

@@ -255,6 +255,10 @@ public final class PromisesTest {
             x.vote(m, 1);
         }
         Due.is("joint", x.joint(1, 0), 999);
+        Due.is("ripe", x.ripe(0, 0, 1), 999);
+        Due.is("queue", x.queue(0), 999);
+        Due.lying(x);
+        Due.is("law", x.law(99), 2);
         Due.is("joined the other way", x.join(1, 0), 999);
         x.vote(0, 0);
         x.day();
@@ -286,7 +290,20 @@ public final class PromisesTest {
         Due.is("opened ones do not fade", x.bill(0, 0), 7);
         Due.is("nor grow older", x.bill(0, 2), 3);
         byTheDayThatWas();
+        manyAtOnce();
         lastDay();
+    }
+
+    private static void manyAtOnce() {
+        AyeJars x = Due.house("member a breath 5;member b breath 5;bill u needs 5 opens 2;bill v needs 5 opens 2;bill w needs 5 opens 2;");
+        x.vote(0, 0);
+        x.vote(1, 1);
+        x.day();
+        x.vote(0, 2);
+        Due.is("in two of them", x.member(0, 4), 5);
+        x.vote(1, 0);
+        Due.is("in two of them", x.member(1, 4), 3);
+        Due.is("all at once", x.day(), 7);
     }
 
     private static void byTheDayThatWas() {
@@ -492,6 +509,9 @@ public final class PromisesTest {
         Due.is("not kept", x.muster(0, 0), -1);
         AyeJars y = Due.house("member a breath 20 keeps 9;member b breath 3;bill x needs 3 opens 9;");
         Due.is("all together are not enough, but one is", y.muster(0, 1), 2);
+        AyeJars z = Due.house("member a breath 5;member b breath 5;member c breath 10;member d breath 10;bill x needs 10 opens 1;");
+        Due.is("one is fewer than two", z.muster(0, 0), 1);
+        Due.is("the least of the fewest", z.muster(0, 1), 4);
     }
 
     private static void p19Latest() {
@@ -865,6 +885,23 @@ public final class PromisesTest {
         Due.is("kept now alone count", x.sabotage(1), 1);
         Due.lying(x, 0);
         notWhenOpened();
+        fiveBills();
+    }
+
+    private static void fiveBills() {
+        AyeJars x = Due.house("member a breath 9;member b breath 9;member c breath 9;member d breath 9;member e breath 9;"
+                + "bill p needs 5 opens 9;bill q needs 5 opens 9;bill r needs 5 opens 9;bill s needs 5 opens 9;bill t needs 6 opens 9;fade (shaken > 1) * 4;");
+        for (int m = 0; m < 5; m++) {
+            x.vote(m, m);
+        }
+        Due.is("once is not enough", x.sabotage(1), 5);
+        Due.lying(x, -1);
+        x.shake(4);
+        x.shake(3);
+        Due.is("of s and t the first", x.sabotage(1), 4);
+        Due.lying(x, 3);
+        Due.is("both", x.sabotage(2), 3);
+        Due.lying(x, 3, 4);
     }
 
     private static void notWhenOpened() {
