@@ -642,22 +642,23 @@ public final class EdgeActsTest {
     private static void fortyKept() {
         Due.topic("forty");
         for (int acts : new int[] {1, 39, 40, 41, 42, 79, 80, 81, 82, 83, 84, 120, 170}) {
+            // by sevens, so that shelves differ that are 40 or 41 acts apart
             AyeJars x = Due.house("bill a needs 1 opens 9;");
             for (int i = 1; i <= acts; i++) {
-                x.shelve(0, i % 10);
+                x.shelve(0, i % 7);
             }
             int kept = Math.min(acts, 40);
             Due.is("kept of " + acts, x.about(7), kept);
             for (int i = 1; i <= kept; i++) {
                 Due.is("undo()", x.undo(), true);
-                Due.is("shelf", x.bill(0, 3), (acts - i) % 10);
+                Due.is("shelf", x.bill(0, 3), (acts - i) % 7);
             }
             Due.is("none", x.undo(), false);
-            Due.is("shelf", x.bill(0, 3), (acts - kept) % 10);
+            Due.is("shelf", x.bill(0, 3), (acts - kept) % 7);
             Due.is("redone", x.about(8), kept);
             for (int i = acts - kept + 1; i <= acts; i++) {
                 Due.is("redo()", x.redo(), true);
-                Due.is("shelf", x.bill(0, 3), i % 10);
+                Due.is("shelf", x.bill(0, 3), i % 7);
             }
             Due.is("none", x.redo(), false);
             Due.is("kept still", x.about(7), kept);
@@ -679,16 +680,26 @@ public final class EdgeActsTest {
         Due.is("shaken", x.bill(1, 4), 0);
         Due.is("then the other", x.redo(), true);
         Due.is("shaken", x.bill(1, 4), 1);
-        int[] left = new int[6];
         for (int act = 0; act < 6; act++) {
             AyeJars y = new AyeJars();
             told.accept(y);
             act(y, act);
-            left[act] = y.about(8);
+            Due.is("act " + act + " ends it", y.about(8), 0);
             Due.is("act " + act + " ends it", y.redo(), false);
-            Due.is("act " + act + " ends it", left[act], 0);
             Due.is("act " + act + " is kept", y.about(7), 8);
         }
+        AyeJars z = new AyeJars();
+        told.accept(z);
+        z.image(0);
+        z.sniffed(3, 4, false);
+        z.untell(0);
+        z.later(1);
+        z.feed(0, 0, 0, 0, 0);
+        z.end(3);
+        z.house();
+        Due.is("what is no act ends nothing", z.about(8), 2);
+        Due.is("nor is it kept", z.about(7), 7);
+        Due.is("redo()", z.redo(), true);
     }
 
     private static void act(AyeJars x, int act) {

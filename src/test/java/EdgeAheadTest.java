@@ -328,6 +328,7 @@ public final class EdgeAheadTest {
         Due.lying(now, -1, 1);
         AyeJars most = told("member a breath 1;member b breath 1;member c breath 1;member d breath 1;member e breath 1;member f breath 1;"
                 + "bill a needs 1 opens 1;bill b needs 1 opens 1;bill c needs 1 opens 1;bill d needs 1 opens 1;bill e needs 2 opens 1;");
+        most.sabotage(3);
         Due.is("all five by all six", most.plan(), 5);
         Due.lying(most, 0, 1, 2, 3, 4, 4);
     }

@@ -523,8 +523,8 @@ public final class EdgeTextTest {
             Due.is("back(" + box + ")", x.back(box), -1);
         }
         Due.is("lies(0)", x.lies(0), -2);
-        Due.is("strange jars by the new house: 13 behind no day", x.sniffed(0, 13, true), 0);
-        Due.is("both", x.fits(2), 1);
+        Due.is("strange jars by the new house", x.sniffed(0, 8, true), 0);
+        Due.is("7 and 6 together alone", x.fits(2), 1);
         Due.is("told at the time that stayed", x.fits(1), 4);
         Due.is("fades by loss, as fade is not told", x.vote(0, 0) - x.bill(0, 9), 4);
     }

@@ -380,17 +380,17 @@ public final class PromisesTest {
     private static void fortyAtMost() {
         AyeJars x = Due.house(PLAIN);
         for (int i = 1; i <= 50; i++) {
-            x.shelve(0, i % 10);
+            x.shelve(0, i % 7);
             Due.is("acts", x.about(7), Math.min(i, 40));
         }
         for (int i = 1; i <= 40; i++) {
             Due.is("undo()", x.undo(), true);
-            Due.is("shelf", x.bill(0, 3), (50 - i) % 10);
+            Due.is("shelf", x.bill(0, 3), (50 - i) % 7);
         }
         Due.is("the oldest are gone", x.undo(), false);
         for (int i = 11; i <= 30; i++) {
             Due.is("redo()", x.redo(), true);
-            Due.is("shelf", x.bill(0, 3), i % 10);
+            Due.is("shelf", x.bill(0, 3), i % 7);
         }
         Due.is("undone", x.about(7), 20);
         Due.is("redone", x.about(8), 20);
